@@ -306,7 +306,8 @@ public final class OpenclassYard {
     public int ownerOf(int index, int message) throws IndexOutOfBoundsException, IllegalArgumentException, NoSuchElementException {
         needClass(index);
         needBelow(message, MESSAGES);
-        last.finder.findInType(index + 1, message, last.nothing);
+        last.finder.lineUpType(index + 1);
+        last.finder.search(message, last.nothing, 1, false);
         if (last.finder.entry <= 0) {
             throw new NoSuchElementException("the message is not found");
         }
@@ -625,7 +626,9 @@ public final class OpenclassYard {
         }
 
         int intAt(int row, int column) {
-            return (int) at(row, column);
+            boolean isIn = row > 0 && row < count && column >= 0 && column < width;
+            int cell = isIn ? row * width + column : -1;
+            return cell >= 0 && cell < cells.length ? (int) cells[cell] : 0;
         }
 
         void put(int row, int column, long value) {
@@ -763,21 +766,16 @@ public final class OpenclassYard {
 
         /** The rows where a thing has its fields and its own place; rows without any if it has none. */
         Rows rowsOf(long thing) {
-            if (Thing.isType(thing)) {
+            int sort = Thing.sortOf(thing);
+            if (sort == Thing.CLASS || sort == Thing.MODULE) {
                 return types;
             }
-            return Thing.sortOf(thing) == Thing.OBJECT ? objects : none;
+            return sort == Thing.OBJECT ? objects : none;
         }
 
         boolean isFrozen(long thing) {
             Rows rows = rowsOf(thing);
             return rows == none || rows.at(Thing.valueOf(thing), IS_FROZEN) == 1;
-        }
-
-        boolean hasOwn(long thing) {
-            Rows rows = rowsOf(thing);
-            int row = Thing.valueOf(thing);
-            return rows.at(row, OWN) > 0 || rows.at(row, EXTENDED) > 0;
         }
 
         boolean holdsConstant(int type, int name) {
@@ -981,36 +979,12 @@ public final class OpenclassYard {
             return indexOf(types.types.intAt(type, Types.PLACE)) > 0;
         }
 
-        void find(long thing, int message, Node node) {
-            lineUp(thing);
-            search(message, node, 1);
-        }
-
-        void findInType(int type, int message, Node node) {
-            lineUpType(type);
-            search(message, node, 1);
-        }
-
-        /** Finds what comes next behind a place; from a refinement on, what the place has itself comes first. */
-        void findBehind(long thing, int message, Node node, int from, boolean isFromRefinement) {
-            lineUp(thing);
-            int index = indexOf(from);
+        /** Looks for a message from a place of the line on, there perhaps just in what the place has itself. */
+        void search(int message, Node node, int from, boolean isPastRefinements) {
             entry = 0;
-            if (isFromRefinement) {
-                place = from;
-                isRefined = false;
-                entry = types.tables.intAt(from, Types.ENTRIES + message);
-            }
-            if (entry == 0) {
-                search(message, node, index + 1);
-            }
-        }
-
-        private void search(int message, Node node, int from) {
-            entry = 0;
-            for (int i = from; i <= line.last() && entry == 0; i++) {
+            for (int i = Math.max(from, 1); i <= line.last() && entry == 0; i++) {
                 place = line.intAt(i, 0);
-                entry = refinedEntry(message, node);
+                entry = isPastRefinements && i == from ? 0 : refinedEntry(message, node);
                 isRefined = entry != 0;
                 if (entry == 0) {
                     entry = types.tables.intAt(place, Types.ENTRIES + message);
@@ -1042,8 +1016,10 @@ public final class OpenclassYard {
         }
 
         private long keyOf(long thing) {
-            boolean isItself = Thing.isType(thing) || types.hasOwn(thing);
-            return isItself ? thing : Thing.of(THINGS_OF_CLASS, types.classOf(thing));
+            Rows rows = types.rowsOf(thing);
+            int row = Thing.valueOf(thing);
+            boolean hasOwn = rows.at(row, Types.OWN) > 0 || rows.at(row, Types.EXTENDED) > 0;
+            return hasOwn || Thing.isType(thing) ? thing : Thing.of(THINGS_OF_CLASS, types.classOf(thing));
         }
 
         /** Whether a call node has kept what it would find; then this is found. */
@@ -1114,10 +1090,11 @@ public final class OpenclassYard {
         /** What is worked out now is what the node gives. */
         static final int PASS = 2;
         static final int HOOK = 3;
-        static final int HOOKED = 4;
+        static final int ANSWERING = 4;
         static final int MISSING = 5;
         static final int MAKING = 6;
         static final int MADE = 7;
+        static final int HOOKED = 14;
         static final int BODY = 8;
         static final int HANDLER = 9;
         static final int OTHER = 10;
@@ -1163,6 +1140,8 @@ public final class OpenclassYard {
         static final int RAISE = 4;
         /** Something new of the class in target is to be raised. */
         static final int FAIL = 5;
+        /** What is on top of the stack gives the value. */
+        static final int DONE = 6;
         private static final int MOST_PRINTS = 60;
         private static final int ALL_LOCALS = 63;
 
@@ -1240,7 +1219,7 @@ public final class OpenclassYard {
 
         void finish(long thing) {
             value = thing;
-            close();
+            signal = DONE;
         }
 
         void close() {
@@ -1373,25 +1352,29 @@ public final class OpenclassYard {
             for (int turn = 0; turn < MANY && r.end == 0; turn++) {
                 int at = r.stack.last();
                 Node n = r.nodeAt(r.stack.intAt(at, Run.NODE));
-                if (r.signal != Run.CALM) {
+                int role = r.stack.intAt(at, Run.ROLE);
+                int phase = r.stack.intAt(at, Run.PHASE);
+                if (r.signal == Run.DONE) {
+                    r.signal = Run.CALM;
+                    r.close();
+                } else if (r.signal != Run.CALM) {
                     Leaver.unwind(r);
                 } else if (at == 0) {
                     r.end = 'd';
-                } else if (r.stack.intAt(at, Run.ROLE) == Run.METHOD_CALL) {
+                } else if (role == Run.METHOD_CALL) {
                     Caller.onMethod(r, at, n);
-                } else if (r.stack.intAt(at, Run.ROLE) == Run.BLOCK_CALL) {
+                } else if (role == Run.BLOCK_CALL) {
                     Caller.onBlock(r, at, n);
-                } else if (!collects(r, at, n)) {
-                    act(r, at, n);
+                } else if (phase >= Run.PASS && phase <= Run.MADE) {
+                    actByPhase(r, at, n);
+                } else if (phase != Run.COLLECTING || !collects(r, at, n)) {
+                    actByKind(r, at, n);
                 }
             }
         }
 
         /** Begins the next of the early parts; tells whether the node has to wait. */
         private static boolean collects(Run r, int at, Node n) {
-            if (r.stack.intAt(at, Run.PHASE) != Run.COLLECTING) {
-                return false;
-            }
             int next = r.stack.intAt(at, Run.NEXT);
             if (next > 0) {
                 r.setSlot(at, next - 1, r.value);
@@ -1411,14 +1394,14 @@ public final class OpenclassYard {
             return false;
         }
 
-        private static void act(Run r, int at, Node n) {
+        private static void actByPhase(Run r, int at, Node n) {
             switch (r.stack.intAt(at, Run.PHASE)) {
-                case Run.PASS: r.finish(r.value); break;
                 case Run.HOOK: Caller.onHook(r, at, n); break;
+                case Run.ANSWERING: Caller.onAnswering(r, at); break;
                 case Run.MISSING: Caller.onMissing(r, at, n); break;
                 case Run.MAKING: Caller.onMaking(r, at, n); break;
                 case Run.MADE: Caller.onMade(r, at, n); break;
-                default: actByKind(r, at, n); break;
+                default: r.finish(r.value); break;
             }
         }
 
@@ -1565,7 +1548,8 @@ public final class OpenclassYard {
         }
 
         private static void onResponds(Run r, int at, Node n) {
-            r.finder.find(r.slot(at, 0), n.name, n);
+            r.finder.lineUp(r.slot(at, 0));
+            r.finder.search(n.name, n, 1, false);
             r.finish(Thing.truth(r.finder.entry > 0 && (r.finder.entry & 3) == Types.PUBLIC));
         }
 
@@ -1586,16 +1570,17 @@ public final class OpenclassYard {
             long receiver = isToSelf ? r.selfOf(at) : r.slot(at, 0);
             takeArguments(r, at, n, 1);
             r.receiver = receiver;
-            r.given = n.part(3) >= 0 ? addClosure(r, at, n.part(3)) : 0;
+            r.given = n.part(3) >= 0 ? addClosure(r, at, n.part(3), r.refiningAt(r.frameOf(at))) : 0;
             if (!r.finder.isKept(receiver, n)) {
-                r.finder.find(receiver, n.name, n);
+                r.finder.lineUp(receiver);
+                r.finder.search(n.name, n, 1, false);
                 r.finder.keep(receiver, n);
             }
             if (r.finder.entry > 0 && (isToSelf || mayCall(r, r.selfOf(at)))) {
                 r.setPhase(at, Run.PASS);
                 invoke(r);
             } else {
-                answer(r, at, n.name);
+                goWithout(r, at, n.name);
             }
         }
 
@@ -1605,14 +1590,13 @@ public final class OpenclassYard {
                     count > 1 ? r.slot(at, first + 1) : Thing.NIL, Thing.NIL);
         }
 
-        private static int addClosure(Run r, int at, int block) {
+        private static int addClosure(Run r, int at, int block, int refining) {
             int closure = r.closures.add();
-            int frame = r.frameOf(at);
             r.closures.put(closure, Run.MADE_OF, block);
-            r.closures.put(closure, Run.MADE_IN, frame);
+            r.closures.put(closure, Run.MADE_IN, r.frameOf(at));
             r.closures.put(closure, Run.GIVEN_TO, at);
             r.closures.put(closure, Run.GIVEN_AT, r.stack.intAt(at, Run.BORN));
-            r.closures.put(closure, Run.MADE_REFINING, r.refiningAt(frame));
+            r.closures.put(closure, Run.MADE_REFINING, refining);
             return closure;
         }
 
@@ -1671,47 +1655,42 @@ public final class OpenclassYard {
             }
         }
 
-        /** Goes on where no method can be called: with what is told of a message itself, or with 1. */
-        private static void answer(Run r, int at, int message) {
-            if (r.finder.entry == 0 && answers(r, at, message)) {
-                return;
-            }
+        /** Goes on where no method can be called: with what is told of the message itself, or with 1. */
+        private static void goWithout(Run r, int at, int message) {
             r.setSlot(at, 0, Thing.of(Thing.MESSAGE, message));
-            r.setPhase(at, Run.MISSING);
+            r.setPhase(at, r.finder.entry == 0 ? Run.ANSWERING : Run.MISSING);
         }
 
         /** Does what is told of the messages 10 to 16, if it is told of this receiver. */
-        private static boolean answers(Run r, int at, int message) {
+        static void onAnswering(Run r, int at) {
+            int message = Thing.valueOf(r.slot(at, 0));
             int sort = Thing.sortOf(r.receiver);
+            int value = Thing.valueOf(r.receiver);
             if (message >= 10 && message <= 12 && sort == Thing.NUMBER) {
-                reckon(r, message);
+                reckon(r, message, value);
             } else if (message == 13) {
                 r.finish(Thing.truth(r.receiver == r.arguments[0]));
+            } else if (message == 14 && sort == Thing.CLASS && value == Types.NUMBER) {
+                r.fail(Types.ERROR);
             } else if (message == 14 && sort == Thing.CLASS) {
-                if (Thing.valueOf(r.receiver) == Types.NUMBER) {
-                    r.fail(Types.ERROR);
-                } else {
-                    r.setSlot(at, 0, r.types.addObject(Thing.valueOf(r.receiver)));
-                    r.setPhase(at, Run.MAKING);
-                }
+                r.setSlot(at, 0, r.types.addObject(value));
+                r.setPhase(at, Run.MAKING);
             } else if (message == 15 && sort == Thing.PROC) {
                 r.setPhase(at, Run.PASS);
-                callBlock(r, Thing.valueOf(r.receiver));
+                callBlock(r, value);
             } else if (message == 16 && sort == Thing.OBJECT) {
-                r.finish(r.types.objects.at(Thing.valueOf(r.receiver), Types.CAUSE));
+                r.finish(r.types.objects.at(value, Types.CAUSE));
             } else {
-                return false;
+                r.setPhase(at, Run.MISSING);
             }
-            return true;
         }
 
-        private static void reckon(Run r, int message) {
+        private static void reckon(Run r, int message, int left) {
             long other = r.arguments[0];
             if (r.argumentCount < 1 || Thing.sortOf(other) != Thing.NUMBER) {
                 r.fail(Types.ERROR);
                 return;
             }
-            int left = Thing.valueOf(r.receiver);
             int right = Thing.valueOf(other);
             if (message == 12) {
                 r.finish(Thing.truth(left < right));
@@ -1722,7 +1701,8 @@ public final class OpenclassYard {
 
         /** Calls 1 with the message in the first slot, or raises a NoMethod. */
         static void onMissing(Run r, int at, Node n) {
-            r.finder.find(r.receiver, 1, n);
+            r.finder.lineUp(r.receiver);
+            r.finder.search(1, n, 1, false);
             if (r.finder.entry > 0) {
                 r.setPhase(at, Run.PASS);
                 r.setArguments(2, r.slot(at, 0), r.arguments[0], Thing.NIL);
@@ -1737,7 +1717,8 @@ public final class OpenclassYard {
             r.receiver = r.slot(at, 0);
             r.given = 0;
             r.setPhase(at, Run.MADE);
-            r.finder.find(r.receiver, 0, n);
+            r.finder.lineUp(r.receiver);
+            r.finder.search(0, n, 1, false);
             if (r.finder.entry > 0) {
                 invoke(r);
             }
@@ -1778,13 +1759,15 @@ public final class OpenclassYard {
             clearFurther(r);
             r.receiver = r.frames.at(home, Run.SELF);
             r.given = r.frames.intAt(home, Run.GIVEN);
-            r.finder.findBehind(r.receiver, defined.name, n, r.frames.intAt(home, Run.PLACE),
-                    r.frames.at(home, Run.IS_REFINED) == 1);
+            r.finder.lineUp(r.receiver);
+            int from = r.finder.indexOf(r.frames.intAt(home, Run.PLACE));
+            boolean isRefined = r.frames.at(home, Run.IS_REFINED) == 1;
+            r.finder.search(defined.name, n, isRefined ? from : from + 1, isRefined);
             if (r.finder.entry > 0) {
                 r.setPhase(at, Run.PASS);
                 invoke(r);
             } else {
-                answer(r, at, defined.name);
+                goWithout(r, at, defined.name);
             }
         }
 
@@ -1796,7 +1779,7 @@ public final class OpenclassYard {
         }
 
         static void onProc(Run r, int at, Node n) {
-            int closure = addClosure(r, at, n.part(0));
+            int closure = addClosure(r, at, n.part(0), r.refiningAt(r.frameOf(at)));
             r.closures.put(closure, Run.GIVEN_TO, 0);
             r.closures.put(closure, Run.IS_LAMBDA, n.name);
             r.finish(Thing.of(Thing.PROC, closure));
@@ -1858,7 +1841,8 @@ public final class OpenclassYard {
             r.given = 0;
             r.setArguments(1, r.slot(at, 1), Thing.NIL, Thing.NIL);
             r.setPhase(at, Run.HOOKED);
-            r.finder.find(r.receiver, hook, n);
+            r.finder.lineUp(r.receiver);
+            r.finder.search(hook, n, 1, false);
             if (r.finder.entry > 0) {
                 invoke(r);
             }
@@ -2187,12 +2171,14 @@ public final class OpenclassYard {
         }
 
         static void onAlias(Run r, int at, Node n) {
-            r.finder.findInType(r.innermostOf(at), n.sort, n);
+            r.finder.lineUpType(r.innermostOf(at));
+            r.finder.search(n.sort, n, 1, false);
             change(r, at, n.name, r.finder.entry, r.finder.entry);
         }
 
         static void onUndefine(Run r, int at, Node n) {
-            r.finder.findInType(r.innermostOf(at), n.name, n);
+            r.finder.lineUpType(r.innermostOf(at));
+            r.finder.search(n.name, n, 1, false);
             change(r, at, n.name, r.finder.entry, Types.HIDDEN);
         }
 
