@@ -24,9 +24,9 @@ public final class OpenclassYard {
         nodeCount = 0;
         file = 0;
         isKeeping = true;
-        last = new Run();
-        kept = new Run();
-        unkept = new Run();
+        last = Run.fresh();
+        kept = Run.fresh();
+        unkept = Run.fresh();
     }
 
     public int number(int value) throws IllegalStateException {
@@ -1147,8 +1147,8 @@ public final class OpenclassYard {
 
         Node[] nodes = new Node[0];
         final Node nothing = new Node(Kind.PLAIN, -1, 0, 'N', 0, new int[] {});
-        final Types types = new Types();
-        final Finder finder = new Finder(types);
+        final Types types;
+        final Finder finder;
         final Rows stack = new Rows(SLOTS + 3, MOST_STEPS + 100);
         final Rows frames = new Rows(VALUES + LOCALS, MOST_STEPS + 100);
         final Rows closures = new Rows(6, MOST_STEPS + 100);
@@ -1165,6 +1165,16 @@ public final class OpenclassYard {
         int limit;
         int depth;
         char end;
+
+        private Run(Types types, Finder finder) {
+            this.types = types;
+            this.finder = finder;
+        }
+
+        static Run fresh() {
+            Types types = new Types();
+            return new Run(types, new Finder(types));
+        }
 
         void reset(Node[] nodes, int limit, boolean isKeeping) {
             this.nodes = nodes;
