@@ -208,6 +208,9 @@ public final class CallsTest extends Check {
         due("16: a proc and a lambda", t.run(t.set(0, t.y.proc(t.block(1, t.p(t.l(1))), false)), t.set(1, t.n(7)), t.set(2, t.y.proc(t.y.block(2, 3, 4, t.p(t.l(4))), true)),
                 t.call(t.l(0), 15), t.call(t.l(0), 15, t.n(1)), t.call(t.l(0), 15, t.n(1), t.n(2)), t.tried(t.call(t.l(2), 15)), t.tried(t.call(t.l(2), 15, t.n(1))),
                 t.call(t.l(2), 15, t.n(1), t.n(2)), t.p(t.l(1)), t.p(t.call(t.l(0), 13, t.l(0))), t.p(t.call(t.l(0), 13, t.l(2)))), "d N n1 n1 o2 o2 n2 n7 T F");
+        CallsTest v = new CallsTest();
+        due("16: local 0 can be a parameter of a lambda", v.run(v.set(1, v.y.proc(v.block(0, v.l(0)), true)), v.set(2, v.y.proc(v.y.block(2, 5, 0, v.l(0)), true)), v.tried(v.call(v.l(1), 15)),
+                v.p(v.call(v.l(1), 15, v.n(1))), v.tried(v.call(v.l(2), 15, v.n(1))), v.p(v.call(v.l(2), 15, v.n(1), v.n(2)))), "d o2 n1 o2 n2");
         CallsTest u = new CallsTest();
         due("16: a new one each time", u.run(u.define(7, u.y.proc(u.block(u.n(1)), false)), u.p(u.call(u.send(7), 13, u.send(7))), u.p(u.y.isA(u.send(7), u.c(0)))), "d F T");
     }

@@ -98,6 +98,7 @@ public final class DefinitionsTest extends Check {
         u.run(u.module(7, u.nil()), u.module(8, u.nil()), u.type(6, u.seq(u.ahead(7), u.ahead(8), u.ahead(7), u.include(7))), u.module(8, u.include(7)));
         due("52: modules that change later", u.lineage(8), "7 6 8 0");
         due("56: not there already, in this way", u.y.definitions(), 4);
+        due("52: without asking for another lineage before", u.y.lineageAt(4, 1) + " " + u.y.lineageAt(8, 1) + " " + u.y.lineage(4) + " " + u.y.lineage(8), "2 6 3 4");
         due("52: no place", of(() -> u.y.lineageAt(8, 4)), "IndexOutOfBoundsException");
         due("52: below", of(() -> u.y.lineageAt(8, -1)), "IndexOutOfBoundsException");
         due("51: no class", of(() -> u.y.lineage(9)), "IndexOutOfBoundsException");

@@ -18,6 +18,7 @@ public final class NodesTest extends Check {
         blocks();
         arguments();
         missable();
+        nodeNought();
         order();
         nothingChanges();
         files();
@@ -129,13 +130,13 @@ public final class NodesTest extends Check {
     private static void part(String what, int count, Maker maker) {
         for (int i = 0; i < count; i++) {
             for (int bad : new int[] {-2, 99, Integer.MAX_VALUE, Integer.MIN_VALUE, 10}) {
-                OpenclassYard y = fresh(10);
+                OpenclassYard y = filled(10);
                 y.block(0, 0, 0, 9);
                 int[] parts = {0, 1, 2, 3};
                 parts[i] = bad;
                 due(what + " part " + i + " is " + bad, of(() -> maker.make(y, parts)), IOOBE);
             }
-            OpenclassYard y = fresh(10);
+            OpenclassYard y = filled(10);
             y.print(3);
             int[] taken = {4, 5, 6, 7};
             taken[i] = 3;
@@ -149,13 +150,13 @@ public final class NodesTest extends Check {
             int part = 4 + i;
             due(what + " has its part " + i, of(() -> y.print(part)), UOE);
         }
-        OpenclassYard full = fresh(240);
+        OpenclassYard full = filled(240);
         due(what + " full", of(() -> maker.make(full, new int[] {0, 1, 2, 3})), ISE);
         due(what + " full, and twice the same", of(() -> maker.make(full, new int[] {0, 0, 0, 0})), count > 1 ? UOE : ISE);
         due(what + " full, and no such part", of(() -> maker.make(full, new int[] {240, 1, 2, 3})), IOOBE);
     }
 
-    private static OpenclassYard fresh(int nodes) {
+    private static OpenclassYard filled(int nodes) {
         OpenclassYard y = new OpenclassYard();
         for (int i = 0; i < nodes; i++) {
             y.number(i);
@@ -164,7 +165,7 @@ public final class NodesTest extends Check {
     }
 
     private static void blocks() {
-        OpenclassYard y = fresh(4);
+        OpenclassYard y = filled(4);
         int block = y.block(0, 0, 0, 0);
         due("16: no block", of(() -> y.proc(1, false)), IOOBE);
         due("16: no node", of(() -> y.proc(-1, false)), IOOBE);
@@ -177,7 +178,7 @@ public final class NodesTest extends Check {
         due("12: a block that is a part", of(() -> y.call(-1, 7, -1, -1, block)), UOE);
         int other = y.block(0, 0, 0, 1);
         due("16: a proc", y.proc(other, true), 7);
-        OpenclassYard full = fresh(238);
+        OpenclassYard full = filled(238);
         int last = full.block(0, 0, 0, 5);
         full.number(0);
         due("16: full", of(() -> full.proc(last, true)), ISE);
@@ -185,7 +186,7 @@ public final class NodesTest extends Check {
     }
 
     private static void arguments() {
-        OpenclassYard y = fresh(3);
+        OpenclassYard y = filled(3);
         due("12: a second argument alone", of(() -> y.call(-1, 7, -1, 0, -1)), IOOBE);
         due("13: a second argument alone", of(() -> y.safeCall(0, 7, -1, 1)), IOOBE);
         due("14: a second argument alone", of(() -> y.superCall(false, -1, 1)), IOOBE);
@@ -195,7 +196,7 @@ public final class NodesTest extends Check {
     }
 
     private static void missable() {
-        OpenclassYard y = fresh(40);
+        OpenclassYard y = filled(40);
         due("13: needs a receiver", of(() -> y.safeCall(-1, 7, -1, -1)), IOOBE);
         due("20: needs a condition", of(() -> y.choice(-1, 0, 1)), IOOBE);
         due("20: needs a yes", of(() -> y.choice(0, -1, 1)), IOOBE);
@@ -223,9 +224,43 @@ public final class NodesTest extends Check {
         due("11: needs a value", of(() -> y.orSet('l', 0, -1)), IOOBE);
     }
 
+    /** Node 0 is a part like any other, also where a part may be left out. */
+    private static void nodeNought() {
+        NodesTest t = new NodesTest();
+        int seven = t.n(7);
+        due("20: no", t.run(t.p(t.y.choice(t.nil(), t.n(1), seven))), "d n7");
+        NodesTest u = new NodesTest();
+        int eight = u.n(8);
+        due("29: default", u.run(u.y.define(7, 0, eight, u.l(0)), u.p(u.send(7))), "d n8");
+        NodesTest v = new NodesTest();
+        int nine = v.n(9);
+        due("23: other", v.run(v.p(v.y.attempt(v.n(1), -1, 0, v.n(2), nine, -1))), "d n9");
+        NodesTest w = new NodesTest();
+        int last = w.y.leave('r', -1);
+        due("23: last", w.run(w.y.attempt(w.n(1), -1, 0, w.n(2), -1, last), w.p(w.n(3))), "d");
+        NodesTest x = new NodesTest();
+        int receiver = x.n(3);
+        due("12: receiver", x.run(x.p(x.call(receiver, 10, x.n(4)))), "d n7");
+        NodesTest z = new NodesTest();
+        int first = z.n(3);
+        due("12: argument", z.run(z.p(z.call(z.n(5), 10, first))), "d n8");
+        NodesTest d = new NodesTest();
+        int second = d.n(4);
+        due("12: second argument", d.run(d.define(7, 2, d.l(1)), d.p(d.send(7, d.n(5), second))), "d n4");
+        NodesTest a = new NodesTest();
+        int above = a.c(2);
+        due("27: above", a.run(a.y.classNode(6, above, a.nil()), a.p(a.y.isA(a.fresh(6), a.c(2)))), "d T");
+        NodesTest b = new NodesTest();
+        int extended = b.self();
+        due("31: thing", b.run(b.module(6, b.p(b.y.mix('e', extended, b.self())))), "d m6");
+        NodesTest c = new NodesTest();
+        int told = c.n(5);
+        due("18: value", c.run(c.define(7, c.y.leave('r', told)), c.p(c.send(7))), "d n5");
+    }
+
     /** Of several exceptions, the one that is listed first. */
     private static void order() {
-        OpenclassYard y = fresh(239);
+        OpenclassYard y = filled(239);
         y.print(0);
         due("number before node", of(() -> y.setLocal(6, 500)), IAE);
         due("number before part", of(() -> y.setLocal(6, 0)), IAE);
@@ -243,7 +278,7 @@ public final class NodesTest extends Check {
     }
 
     private static void nothingChanges() {
-        OpenclassYard y = fresh(3);
+        OpenclassYard y = filled(3);
         due("taken", of(() -> y.choice(0, 1, 77)), IOOBE);
         due("same", of(() -> y.choice(0, 1, 1)), UOE);
         due("none of them is taken", y.choice(0, 1, 2), 3);

@@ -44,6 +44,14 @@ public final class RefinementsTest extends Check {
         int same = t.p(t.call(t.n(1), 7));
         int through = t.tried(t.send(9));
         due("38 42: of its file alone, where the call stands", t.run(module, method, use, other, same, through), "d o3 n8 o3");
+        RefinementsTest u = new RefinementsTest();
+        int refined = u.module(8, u.refine(1, u.define(7, u.n(8))));
+        u.y.setFile(3);
+        int third = u.y.using(u.c(8));
+        int there = u.p(u.call(u.n(1), 7));
+        due("42: the file before", u.y.setFile(0), 3);
+        int first = u.tried(u.call(u.n(1), 7));
+        due("38 42: of another file", u.run(refined, third, first, there), "d o3 n8");
     }
 
     private static void lastFirst() {
@@ -80,6 +88,10 @@ public final class RefinementsTest extends Check {
         RefinementsTest v = new RefinementsTest();
         due("37: in a method of it, definitions are those of the innermost one", v.run(v.module(8, v.refine(1, v.define(7, v.define(9, v.n(9))))), v.y.using(v.c(8)), v.call(v.n(1), 7), v.tried(v.call(v.n(1), 9)), v.set(0, v.fresh(0)), v.y.mix('e', v.l(0), v.c(8)), v.p(v.call(v.l(0), 9))),
                 "d o3 n9");
+        RefinementsTest z = new RefinementsTest();
+        due("15 37: in a block, as where it was made", z.run(z.define(9, z.y.yields(-1, -1)), z.module(8, z.refine(1, z.seq(z.set(0, z.fresh(0)), z.y.call(z.l(0), 9, -1, -1, z.block(z.define(7, z.n(7)))),
+                z.y.setConstant(10, z.y.proc(z.block(z.define(6, z.n(6))), true))))), z.module(8, z.seq(z.call(z.c(10), 15), z.define(2, z.nil()))), z.y.using(z.c(8)), z.p(z.call(z.n(1), 7)), z.p(z.call(z.n(1), 6)),
+                z.p(z.y.responds(z.n(1), 2))), "d n7 n6 F");
         RefinementsTest w = new RefinementsTest();
         due("37: a body in it is one of its own", w.run(w.module(8, w.refine(1, w.seq(w.type(7, w.define(7, w.n(7))), w.y.alias(2, 2)))), w.nil()), "e3");
         due("53: in the class", w.y.ownerOf(7, 7), 7);

@@ -4,6 +4,8 @@ public final class RunsTest extends Check {
         nothingRun();
         limits();
         anew();
+        anewInAll();
+        keptSuper();
         keeping();
         keys();
         stale();
@@ -77,6 +79,24 @@ public final class RunsTest extends Check {
         return seq(set(0, n(0)), y.loop(call(l(0), 12, n(to)), seq(set(0, call(l(0), 10, n(1))), body)));
     }
 
+    /** Nothing of a run goes into the next one, however it ended. */
+    private static void anewInAll() {
+        RunsTest t = new RunsTest();
+        int deep = t.seq(t.define(7, t.send(7)), t.y.setConstant(2, t.n(1)), t.module(8, t.y.refine(t.c(1), t.define(9, t.n(9)))), t.y.using(t.c(8)), t.send(7));
+        int shallow = t.seq(t.define(7, 1, t.y.choice(t.call(t.l(0), 12, t.n(2)), t.n(5), t.send(7, t.call(t.l(0), 11, t.n(1))))), t.module(8, t.y.refine(t.c(1), t.define(9, t.n(9)))),
+                t.p(t.send(7, t.n(40))), t.tried(t.call(t.n(1), 9)));
+        due("44: the depth of calls", t.runLimited(deep, 30), "l");
+        due("57: a warning", t.y.warnings(), 1);
+        due("44: the depth of calls anew, and nothing is used", t.runLimited(shallow, 5000), "d n5 o3");
+        due("57: no warning", t.y.warnings(), 0);
+        String once = t.kept() + " " + t.y.definitions() + " " + t.y.steps();
+        due("44: once more", t.runLimited(shallow, 5000), "d n5 o3");
+        due("54 55 56: just the same", t.kept() + " " + t.y.definitions() + " " + t.y.steps(), once);
+        due("44: raised", t.runLimited(deep, 5000), "e4");
+        due("44: nothing is raised any more", t.runLimited(shallow, 5000), "d n5 o3");
+        due("62: the same", t.y.isSame(deep), true);
+    }
+
     private static void keeping() {
         RunsTest t = new RunsTest();
         due("54 55: found nothing is kept, too", t.run(t.count(3, t.nil())), "d");
@@ -105,6 +125,19 @@ public final class RunsTest extends Check {
                 v.send(8, v.c(8)), v.send(8, v.c(8)), v.send(8, v.c(0)));
         due("54: with modules at its own place; of others their class", v.runLimited(mixed, 5000), "d n1 n1 n1 n1 n1 n1 n1");
         due("54 55", v.kept(), "3 12");
+    }
+
+    /** What is kept knows where it was found, so that super goes on from there. */
+    private static void keptSuper() {
+        RunsTest t = new RunsTest();
+        int node = t.seq(t.define(7, t.n(1)), t.type(6, t.define(7, t.call(t.y.superCall(true, -1, -1), 10, t.n(10)))), t.module(8, t.y.refine(t.c(6), t.define(7, t.call(t.y.superCall(true, -1, -1), 10, t.n(100))))),
+                t.y.using(t.c(8)), t.define(9, 1, t.p(t.call(t.l(0), 7))), t.send(9, t.fresh(6)), t.send(9, t.fresh(6)), t.send(9, t.n(0)), t.send(9, t.n(0)), t.send(9, t.fresh(6)));
+        due("54: of a refinement", t.runLimited(node, 5000), "d n111 n111 n1 n1 n111");
+        due("62: the same", t.y.isSame(node), true);
+        RunsTest u = new RunsTest();
+        int two = u.seq(u.define(7, u.n(1)), u.type(6, u.define(7, u.call(u.y.superCall(true, -1, -1), 10, u.n(10)))), u.type(8, 6, u.nil()), u.define(9, 1, u.p(u.call(u.l(0), 7))),
+                u.send(9, u.fresh(8)), u.send(9, u.fresh(8)), u.send(9, u.fresh(6)), u.send(9, u.fresh(6)));
+        due("54: of a class", u.runLimited(two, 5000), "d n11 n11 n11 n11");
     }
 
     private static void stale() {
