@@ -1094,13 +1094,12 @@ public final class OpenclassYard {
         static final int MISSING = 5;
         static final int MAKING = 6;
         static final int MADE = 7;
-        static final int HOOKED = 14;
+        static final int HOOKED = 13;
         static final int BODY = 8;
         static final int HANDLER = 9;
         static final int OTHER = 10;
         static final int LAST = 11;
         static final int PENDING = 12;
-        static final int OVER = 13;
         // Columns of frames, one for the program and each call and body.
         static final int SELF = 0;
         static final int SORT = 1;
@@ -1960,7 +1959,6 @@ public final class OpenclassYard {
             } else if (phase == Run.LAST) {
                 r.finish(r.slot(at, 0));
             } else if (phase == Run.PENDING) {
-                r.setPhase(at, Run.OVER);
                 r.signalTo((int) r.slot(at, 1), (int) r.slot(at, 2), r.slot(at, 0));
             } else if (n.part(3) >= 0) {
                 r.setSlot(at, 0, r.value);

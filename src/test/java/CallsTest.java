@@ -9,6 +9,7 @@ public final class CallsTest extends Check {
         missing();
         safe();
         supers();
+        supersOwn();
         supersBehind();
         yielding();
         blocks();
@@ -137,6 +138,26 @@ public final class CallsTest extends Check {
         CallsTest z = new CallsTest();
         due("14: three parameters", z.run(z.define(7, z.n(1)), z.type(6, z.y.define(7, 2, z.n(1), z.y.superCall(true, -1, -1))), z.tried(z.call(z.fresh(6), 7, z.n(1), z.n(2))),
                 z.define(1, 2, z.l(1)), z.type(6, z.y.define(8, 2, z.n(1), z.y.superCall(true, -1, -1))), z.p(z.call(z.fresh(6), 8, z.n(4), z.n(5)))), "d o2 n4");
+    }
+
+    /** What a super gives on is of its own method, not of what was called last. */
+    private static void supersOwn() {
+        CallsTest t = new CallsTest();
+        due("14: three parameters as now", t.run(t.y.define(7, 2, t.n(3), t.seq(t.p(t.l(0)), t.p(t.l(1)), t.p(t.l(2)))), t.type(6, t.y.define(7, 2, t.n(4), t.seq(t.set(2, t.call(t.l(2), 10, t.n(1))),
+                t.y.superCall(true, -1, -1)))), t.call(t.fresh(6), 7, t.n(1), t.n(2))), "d n1 n2 n5");
+        CallsTest u = new CallsTest();
+        due("14: the parameters alone, not other locals", u.run(u.define(13, u.seq(u.set(0, u.self()), u.set(1, u.n(8)), u.y.superCall(true, -1, -1))), u.p(u.call(u.n(1), 13)), u.p(u.call(u.nil(), 13))), "d F T");
+        CallsTest v = new CallsTest();
+        due("14: its own block, whatever was called before", v.run(v.type(6, v.seq(v.define(7, v.y.yields(-1, -1)), v.define(8, v.y.yields(-1, -1)))), v.type(7, 6, v.define(7, v.seq(v.send(9), v.y.call(-1, 8, -1, -1, v.block(v.p(v.n(1)))),
+                v.y.superCall(true, -1, -1)))), v.define(9, v.n(0)), v.y.call(v.fresh(7), 7, -1, -1, v.block(v.p(v.n(2))))), "d n1 n2");
+        CallsTest w = new CallsTest();
+        due("14: nothing behind, 1 with the block", w.run(w.define(1, 2, w.seq(w.p(w.l(0)), w.p(w.l(1)), w.y.yields(-1, -1))), w.type(6, w.define(7, 2, w.y.superCall(false, w.l(1), w.l(0)))),
+                w.p(w.y.call(w.fresh(6), 7, w.n(4), w.n(5), w.block(w.n(6))))), "d s7 n5 n6");
+        CallsTest x = new CallsTest();
+        due("12: 1 answers what is kept, too", x.run(x.type(6, x.define(1, 2, x.l(1))), x.define(9, 1, x.p(x.call(x.fresh(6), 7, x.l(0)))), x.send(9, x.n(1)), x.send(9, x.n(2)), x.send(9, x.n(3))), "d n1 n2 n3");
+        due("54: twice 14 and twice 7 are hits", x.y.hits(), 4);
+        CallsTest z = new CallsTest();
+        due("17: hooks get no block, whatever was called before", z.run(z.y.defineOn(z.c(0), 5, 1, -1, z.tried(z.y.yields(-1, -1))), z.define(9, z.y.yields(-1, -1)), z.y.call(-1, 9, -1, -1, z.block(z.define(7, z.nil())))), "d o4 o4");
     }
 
     private static void supersBehind() {

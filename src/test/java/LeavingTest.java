@@ -8,6 +8,7 @@ public final class LeavingTest extends Check {
         program();
         bodies();
         over();
+        outermost();
         raising();
         trying();
         lastParts();
@@ -129,6 +130,23 @@ public final class LeavingTest extends Check {
         due("18: another call of the same node is not that call", w.run(w.define(7, w.seq(w.y.orSet('c', 9, w.y.proc(w.block(w.y.yields(-1, -1)), false)), w.y.yields(-1, -1))),
                 w.count(2, w.y.call(-1, 7, -1, -1, w.block(w.y.choice(w.call(w.l(0), 13, w.n(2)), w.tried(w.y.attempt(w.seq(w.set(0, w.n(7)), w.call(w.c(9), 15)), 11, 4, w.nil(), -1, -1)),
                         w.when(0, 7, w.leave('b', -1)))))), w.p(w.l(0))), "d o2 n7");
+    }
+
+    /** The node that is run is left like any other. */
+    private static void outermost() {
+        LeavingTest t = new LeavingTest();
+        due("18: the loop that is run", t.runLimited(t.y.loop(t.n(1), t.seq(t.p(t.n(2)), t.leave('b', -1))), 50), "d n2");
+        LeavingTest u = new LeavingTest();
+        int call = u.y.call(u.seq(u.define(7, u.seq(u.y.yields(-1, -1), u.p(u.n(9)))), u.nil()), 7, -1, -1, u.block(u.leave('b', u.n(1))));
+        due("18: the call that is run", u.runLimited(call, 50), "d");
+        LeavingTest v = new LeavingTest();
+        due("25: the catching that is run", v.runLimited(v.y.catches(v.n(1), v.seq(v.y.throwsTo(v.n(1), v.n(2)), v.p(v.n(3)))), 50), "d");
+        LeavingTest w = new LeavingTest();
+        due("22: the handler of what is run", w.runLimited(w.y.attempt(w.raises(), -1, 0, w.seq(w.y.attempt(w.y.raises(w.c(4)), -1, 1, w.p(w.call(w.l(1), 16)), -1, -1)), -1, -1), 50), "d o2");
+        LeavingTest x = new LeavingTest();
+        due("23: the last part of what is run", x.runLimited(x.y.attempt(x.leave('r', x.n(1)), -1, 0, x.nil(), -1, x.p(x.n(2))), 50), "d n2");
+        LeavingTest z = new LeavingTest();
+        due("23: constant 0", z.run(z.p(z.y.attempt(z.raises(), 0, 0, z.n(1), -1, -1)), z.y.setConstant(0, z.c(5)), z.y.attempt(z.raises(), 0, 0, z.n(1), -1, -1)), "e2 n1");
     }
 
     private static void raising() {
