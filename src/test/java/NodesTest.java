@@ -251,8 +251,8 @@ public final class NodesTest extends Check {
         int above = a.c(2);
         due("27: above", a.run(a.y.classNode(6, above, a.nil()), a.p(a.y.isA(a.fresh(6), a.c(2)))), "d T");
         NodesTest b = new NodesTest();
-        int extended = b.self();
-        due("31: thing", b.run(b.module(6, b.p(b.y.mix('e', extended, b.self())))), "d m6");
+        int extended = b.c(2);
+        due("31: thing", b.run(b.module(6, b.y.mix('e', extended, b.self())), b.p(b.y.isA(b.c(2), b.c(6))), b.p(b.y.isA(b.c(6), b.c(6)))), "d T F");
         NodesTest c = new NodesTest();
         int told = c.n(5);
         due("18: value", c.run(c.define(7, c.y.leave('r', told)), c.p(c.send(7))), "d n5");

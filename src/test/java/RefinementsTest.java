@@ -109,6 +109,12 @@ public final class RefinementsTest extends Check {
     private static void others() {
         RefinementsTest t = new RefinementsTest();
         due("40 32: responding and aliasing find them, too", t.run(t.type(6, t.nil()), t.module(8, t.refine(6, t.define(7, t.n(8)))), t.p(t.y.responds(t.fresh(6), 7)), t.y.using(t.c(8)), t.p(t.y.responds(t.fresh(6), 7)), t.type(6, t.y.alias(9, 7)), t.p(t.call(t.fresh(6), 9))), "d F T n8");
+        RefinementsTest v = new RefinementsTest();
+        due("33: undefining finds them, too, and leaves them", v.run(v.type(6, v.nil()), v.module(8, v.refine(6, v.define(7, v.n(8)))), v.y.using(v.c(8)), v.type(6, v.p(v.y.undefine(7))), v.p(v.call(v.fresh(6), 7)),
+                v.define(9, v.n(9)), v.type(6, v.y.undefine(9)), v.tried(v.call(v.fresh(6), 9))), "d N n8 o3");
+        RefinementsTest w = new RefinementsTest();
+        due("37: an own place is not refined", w.run(w.module(8, w.refine(0, w.define(7, w.n(8)))), w.y.using(w.c(8)), w.set(0, w.fresh(0)), w.y.defineOn(w.l(0), 7, 0, -1, w.n(1)), w.p(w.call(w.l(0), 7)),
+                w.p(w.call(w.nil(), 7))), "d n1 n8");
         RefinementsTest u = new RefinementsTest();
         due("12: what is told of 0 and 1, and hooks", u.run(u.module(8, u.seq(u.refine(0, u.define(1, 2, u.l(0))), u.refine(0, u.define(0, u.p(u.n(4)))), u.refine(0, u.define(3, 1, u.p(u.l(0)))))), u.tried(u.send(9)), u.p(u.fresh(0)), u.y.using(u.c(8)), u.p(u.send(9)), u.p(u.fresh(0)), u.type(6, u.nil())),
                 "d o3 o0 s9 n4 o0 c7");
