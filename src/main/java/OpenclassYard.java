@@ -764,6 +764,11 @@ public final class OpenclassYard {
             return sort == Thing.OBJECT ? objects.intAt(Thing.valueOf(thing), CLASS) : OBJECT;
         }
 
+        /** The class that a node which opens this class again has to have above it: Object is no other class than itself. */
+        int aboveToOpen(int type) {
+            return type == OBJECT ? OBJECT : types.intAt(type, ABOVE);
+        }
+
         /** The rows where a thing has its fields and its own place; rows without any if it has none. */
         Rows rowsOf(long thing) {
             int sort = Thing.sortOf(thing);
@@ -1267,6 +1272,11 @@ public final class OpenclassYard {
             return frames.at(stack.intAt(at, FRAME), SELF);
         }
 
+        /** The frame of the method around, or 0. */
+        int homeOf(int at) {
+            return frames.intAt(stack.intAt(at, FRAME), HOME);
+        }
+
         int scopeOf(int at) {
             return frames.intAt(stack.intAt(at, FRAME), SCOPE);
         }
@@ -1385,6 +1395,11 @@ public final class OpenclassYard {
         /** Begins the next of the early parts; tells whether the node has to wait. */
         private static boolean collects(Run r, int at, Node n) {
             int next = r.stack.intAt(at, Run.NEXT);
+            if (n.kind == Kind.SUPER && r.homeOf(at) == 0) {
+                // Out of a method nothing is told of arguments: super raises before any is worked out.
+                r.fail(Types.BROKEN);
+                return true;
+            }
             if (next > 0) {
                 r.setSlot(at, next - 1, r.value);
             }
@@ -1753,11 +1768,7 @@ public final class OpenclassYard {
         }
 
         static void onSuper(Run r, int at, Node n) {
-            int home = r.frames.intAt(r.frameOf(at), Run.HOME);
-            if (home == 0) {
-                r.fail(Types.BROKEN);
-                return;
-            }
+            int home = r.homeOf(at);
             Node defined = r.nodeAt(r.types.methods.intAt(r.frames.intAt(home, Run.METHOD), Types.NODE));
             if (n.name == 1) {
                 r.setArguments(defined.mostArguments(), r.frames.at(home, Run.VALUES),
@@ -1795,7 +1806,7 @@ public final class OpenclassYard {
         }
 
         static void onYield(Run r, int at, Node n) {
-            int home = r.frames.intAt(r.frameOf(at), Run.HOME);
+            int home = r.homeOf(at);
             int block = r.frames.intAt(home, Run.GIVEN);
             if (block == 0) {
                 r.fail(Types.BROKEN);
@@ -2051,7 +2062,7 @@ public final class OpenclassYard {
             long above = n.part(0) >= 0 ? r.slot(at, 0) : r.types.thingOf(Types.OBJECT);
             int sort = Thing.sortOf(there);
             boolean isOther = sort == Thing.CLASS
-                    && (isModule || r.types.types.intAt(Thing.valueOf(there), Types.ABOVE) != Thing.valueOf(above));
+                    && (isModule || r.types.aboveToOpen(Thing.valueOf(there)) != Thing.valueOf(above));
             if (Thing.sortOf(above) != Thing.CLASS || isOther) {
                 r.fail(Types.ERROR);
             } else if (sort == (isModule ? Thing.MODULE : Thing.CLASS)) {

@@ -9,6 +9,7 @@ public final class CallsTest extends Check {
         missing();
         safe();
         supers();
+        supersOutside();
         supersOwn();
         supersBehind();
         yielding();
@@ -134,10 +135,27 @@ public final class CallsTest extends Check {
                 w.define(9, w.y.yields(w.n(5), -1)), w.define(7, 1, w.y.call(-1, 9, -1, -1, w.block(0, w.y.superCall(true, -1, -1)))))), w.call(w.fresh(7), 7, w.n(1))), "d n1");
         CallsTest x = new CallsTest();
         due("14: out of a method", x.run(x.tried(x.y.superCall(true, -1, -1)), x.tried(x.y.superCall(false, x.p(x.n(1)), -1)),
-                x.define(7, x.type(6, x.y.superCall(true, -1, -1))), x.send(7)), "e4 o4 n1 o4");
+                x.define(7, x.type(6, x.y.superCall(true, -1, -1))), x.send(7)), "e4 o4 o4");
         CallsTest z = new CallsTest();
         due("14: three parameters", z.run(z.define(7, z.n(1)), z.type(6, z.y.define(7, 2, z.n(1), z.y.superCall(true, -1, -1))), z.tried(z.call(z.fresh(6), 7, z.n(1), z.n(2))),
                 z.define(1, 2, z.l(1)), z.type(6, z.y.define(8, 2, z.n(1), z.y.superCall(true, -1, -1))), z.p(z.call(z.fresh(6), 8, z.n(4), z.n(5)))), "d o2 n4");
+    }
+
+    /** Out of a method super raises at once: no argument of it begins. */
+    private static void supersOutside() {
+        CallsTest t = new CallsTest();
+        int alone = t.y.superCall(false, t.p(t.n(1)), t.p(t.n(2)));
+        due("14: no argument is worked out", t.runLimited(alone, 1), "e4");
+        due("45: one step", t.y.steps(), 1);
+        due("14: without a limit", t.run(t.tried(alone)) + " " + t.y.steps(), "d o4 4");
+        CallsTest u = new CallsTest();
+        due("14: in a block or a body out of a method", u.run(u.tried(u.call(u.y.proc(u.block(u.y.superCall(false, u.p(u.n(1)), -1)), true), 15)), u.tried(u.type(6, u.y.superCall(false, u.p(u.n(2)), -1))),
+                u.define(7, u.type(6, u.y.superCall(false, u.p(u.n(3)), u.p(u.n(4))))), u.send(7)), "e4 o4 o4");
+        CallsTest v = new CallsTest();
+        due("14: in a method they are, also where nothing is behind", v.run(v.define(7, v.y.superCall(false, v.p(v.n(1)), v.p(v.n(2)))), v.send(7)), "e3 n1 n2");
+        CallsTest w = new CallsTest();
+        due("14: in a block whose method is over", w.run(w.define(8, 1, w.p(w.l(0))), w.type(6, w.define(8, 1, w.y.proc(w.block(w.y.superCall(false, w.p(w.n(2)), -1)), true))),
+                w.call(w.call(w.fresh(6), 8, w.n(1)), 15)), "d n2 n2");
     }
 
     /** What a super gives on is of its own method, not of what was called last. */

@@ -3,6 +3,7 @@ public final class DefinitionsTest extends Check {
     public static void main(String[] args) {
         classes();
         classesAgain();
+        objectAgain();
         modules();
         defining();
         definingOn();
@@ -34,12 +35,25 @@ public final class DefinitionsTest extends Check {
                 t.type(7, 6, t.p(t.n(3))), t.type(7, 6, t.p(t.n(4))), t.tried(t.type(7, 0, t.p(t.n(9)))), t.tried(t.type(6, 7, t.p(t.n(9)))), t.type(6, 0, t.p(t.n(5)))), "d N n1 n2 n3 n4 o2 o2 n5");
         due("57: no warnings", t.y.warnings(), 0);
         DefinitionsTest w = new DefinitionsTest();
-        due("27: without one, Object is what is above it", w.run(w.type(6, 2, w.nil()), w.tried(w.type(6, w.p(w.n(9)))), w.tried(w.type(0, w.p(w.n(9)))), w.type(1, w.p(w.self()))), "d o2 o2 c1");
+        due("27: without one, Object is what is above it", w.run(w.type(6, 2, w.nil()), w.tried(w.type(6, w.p(w.n(9)))), w.type(1, w.p(w.self())), w.type(2, w.p(w.n(3)))), "d o2 c1 n3");
         DefinitionsTest u = new DefinitionsTest();
         due("27: another thing is a warning", u.run(u.y.setConstant(6, u.n(1)), u.p(u.type(6, u.self())), u.module(7, u.nil()), u.p(u.type(7, u.self()))), "d c6 c8");
         due("57: two warnings", u.y.warnings(), 2);
         DefinitionsTest v = new DefinitionsTest();
         due("27: in a method, around its definition", v.run(v.type(6, v.define(7, v.type(9, v.self()))), v.p(v.call(v.fresh(6), 7)), v.p(v.call(v.fresh(6), 7)), v.tried(v.c(9)), v.type(6, v.p(v.c(9)))), "d c7 c7 o2 c7");
+    }
+
+    private static void objectAgain() {
+        DefinitionsTest t = new DefinitionsTest();
+        due("27: Object is opened again, with itself for what is above or with nothing", t.run(t.p(t.type(0, t.seq(t.define(7, t.n(7)), t.self()))), t.p(t.send(7)), t.type(0, 0, t.define(8, t.n(8))), t.p(t.send(8)),
+                t.type(6, t.define(9, t.type(0, t.self()))), t.p(t.call(t.fresh(6), 9)), t.y.freeze(t.c(0)), t.type(0, t.p(t.n(1)))), "d c0 n7 n8 c7 n1");
+        due("56: definitions", t.y.definitions(), 3);
+        due("57: no warnings", t.y.warnings(), 0);
+        due("51 52: lineages", t.lineage(0) + "|" + t.lineage(6) + "|" + t.lineage(7), "0|6 0|7 0");
+        DefinitionsTest u = new DefinitionsTest();
+        due("27: not with another class above it, or what is none, or as a module", u.run(u.tried(u.type(0, 1, u.p(u.n(9)))), u.tried(u.y.classNode(0, u.n(1), u.p(u.n(9)))), u.tried(u.module(0, u.p(u.n(9))))), "d o2 o2 o2");
+        DefinitionsTest v = new DefinitionsTest();
+        due("27: as another constant, of another class", v.run(v.type(6, v.seq(v.y.setConstant(7, v.c(0)), v.p(v.type(7, v.self())), v.type(7, v.define(8, v.n(8))))), v.p(v.send(8)), v.tried(v.type(3, v.p(v.n(9))))), "d c0 n8 o2");
     }
 
     private static void modules() {
