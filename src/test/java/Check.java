@@ -53,6 +53,18 @@ class Check {
         return y.plain('S');
     }
 
+    int yes() {
+        return y.plain('T');
+    }
+
+    int no() {
+        return y.plain('F');
+    }
+
+    int message(int message) {
+        return y.message(message);
+    }
+
     int l(int local) {
         return y.local(local);
     }
@@ -102,6 +114,19 @@ class Check {
 
     int block(int parameter, int body) {
         return y.block(1, parameter, 0, body);
+    }
+
+    int proc(int block) {
+        return y.proc(block, false);
+    }
+
+    int lambda(int block) {
+        return y.proc(block, true);
+    }
+
+    /** A call without a receiver that gives a block. */
+    int give(int message, int block) {
+        return y.call(-1, message, -1, -1, block);
     }
 
     int define(int message, int body) {

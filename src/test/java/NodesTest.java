@@ -93,49 +93,45 @@ public final class NodesTest extends Check {
         due("15: a local without a second parameter", of(() -> y.block(1, 0, 77, 9)), IOOBE);
     }
 
-    /** The makers that have parts, with how many there are. */
+    /** The makers that have parts: n for one that is needed, m for one that may be missing, f and s for a first and a second argument. */
     private static void parts() {
-        part("6", 1, (y, p) -> y.setLocal(0, p[0]));
-        part("8", 1, (y, p) -> y.setField(0, p[0]));
-        part("10", 1, (y, p) -> y.setConstant(0, p[0]));
-        part("11", 1, (y, p) -> y.orSet('f', 0, p[0]));
-        part("12", 3, (y, p) -> y.call(p[0], 7, p[1], p[2], -1));
-        part("13", 3, (y, p) -> y.safeCall(p[0], 7, p[1], p[2]));
-        part("14", 2, (y, p) -> y.superCall(false, p[0], p[1]));
-        part("15", 1, (y, p) -> y.block(2, 0, 1, p[0]));
-        part("17", 2, (y, p) -> y.yields(p[0], p[1]));
-        part("18", 1, (y, p) -> y.leave('b', p[0]));
-        part("19", 2, (y, p) -> y.both(p[0], p[1]));
-        part("20", 3, (y, p) -> y.choice(p[0], p[1], p[2]));
-        part("21", 2, (y, p) -> y.loop(p[0], p[1]));
-        part("22", 1, (y, p) -> y.raises(p[0]));
-        part("23", 4, (y, p) -> y.attempt(p[0], -1, 0, p[1], p[2], p[3]));
-        part("25", 2, (y, p) -> y.catches(p[0], p[1]));
-        part("26", 2, (y, p) -> y.throwsTo(p[0], p[1]));
-        part("27", 2, (y, p) -> y.classNode(0, p[0], p[1]));
-        part("28", 1, (y, p) -> y.moduleNode(0, p[0]));
-        part("29", 2, (y, p) -> y.define(0, 0, p[0], p[1]));
-        part("30", 3, (y, p) -> y.defineOn(p[0], 0, 0, p[1], p[2]));
-        part("31", 2, (y, p) -> y.mix('e', p[0], p[1]));
-        part("31", 1, (y, p) -> y.mix('i', 77, p[0]));
-        part("31", 1, (y, p) -> y.mix('p', -9, p[0]));
-        part("36", 1, (y, p) -> y.freeze(p[0]));
-        part("37", 2, (y, p) -> y.refine(p[0], p[1]));
-        part("38", 1, (y, p) -> y.using(p[0]));
-        part("39", 2, (y, p) -> y.isA(p[0], p[1]));
-        part("40", 1, (y, p) -> y.responds(p[0], 0));
-        part("41", 1, (y, p) -> y.print(p[0]));
+        part("6", "n", (y, p) -> y.setLocal(0, p[0]));
+        part("8", "n", (y, p) -> y.setField(0, p[0]));
+        part("10", "n", (y, p) -> y.setConstant(0, p[0]));
+        part("11", "n", (y, p) -> y.orSet('f', 0, p[0]));
+        part("12", "mfs", (y, p) -> y.call(p[0], 7, p[1], p[2], -1));
+        part("13", "nfs", (y, p) -> y.safeCall(p[0], 7, p[1], p[2]));
+        part("14", "fs", (y, p) -> y.superCall(false, p[0], p[1]));
+        part("15", "n", (y, p) -> y.block(2, 0, 1, p[0]));
+        part("17", "fs", (y, p) -> y.yields(p[0], p[1]));
+        part("18", "m", (y, p) -> y.leave('b', p[0]));
+        part("19", "nn", (y, p) -> y.both(p[0], p[1]));
+        part("20", "nnm", (y, p) -> y.choice(p[0], p[1], p[2]));
+        part("21", "nn", (y, p) -> y.loop(p[0], p[1]));
+        part("22", "n", (y, p) -> y.raises(p[0]));
+        part("23", "nnmm", (y, p) -> y.attempt(p[0], -1, 0, p[1], p[2], p[3]));
+        part("25", "nn", (y, p) -> y.catches(p[0], p[1]));
+        part("26", "nn", (y, p) -> y.throwsTo(p[0], p[1]));
+        part("27", "mn", (y, p) -> y.classNode(0, p[0], p[1]));
+        part("28", "n", (y, p) -> y.moduleNode(0, p[0]));
+        part("29", "mn", (y, p) -> y.define(0, 0, p[0], p[1]));
+        part("30", "nmn", (y, p) -> y.defineOn(p[0], 0, 0, p[1], p[2]));
+        part("31", "mn", (y, p) -> y.mix('e', p[0], p[1]));
+        part("31", "n", (y, p) -> y.mix('i', 77, p[0]));
+        part("31", "n", (y, p) -> y.mix('p', -9, p[0]));
+        part("36", "n", (y, p) -> y.freeze(p[0]));
+        part("37", "nn", (y, p) -> y.refine(p[0], p[1]));
+        part("38", "n", (y, p) -> y.using(p[0]));
+        part("39", "nn", (y, p) -> y.isA(p[0], p[1]));
+        part("40", "n", (y, p) -> y.responds(p[0], 0));
+        part("41", "n", (y, p) -> y.print(p[0]));
     }
 
-    private static void part(String what, int count, Maker maker) {
+    private static void part(String what, String wants, Maker maker) {
+        int count = wants.length();
         for (int i = 0; i < count; i++) {
-            for (int bad : new int[] {-2, 99, Integer.MAX_VALUE, Integer.MIN_VALUE, 10}) {
-                OpenclassYard y = filled(10);
-                y.block(0, 0, 0, 9);
-                int[] parts = {0, 1, 2, 3};
-                parts[i] = bad;
-                due(what + " part " + i + " is " + bad, of(() -> maker.make(y, parts)), IOOBE);
-            }
+            wrongPart(what, i, maker);
+            missingPart(what, wants, i, maker);
             OpenclassYard y = filled(10);
             y.print(3);
             int[] taken = {4, 5, 6, 7};
@@ -154,6 +150,31 @@ public final class NodesTest extends Check {
         due(what + " full", of(() -> maker.make(full, new int[] {0, 1, 2, 3})), ISE);
         due(what + " full, and twice the same", of(() -> maker.make(full, new int[] {0, 0, 0, 0})), count > 1 ? UOE : ISE);
         due(what + " full, and no such part", of(() -> maker.make(full, new int[] {240, 1, 2, 3})), IOOBE);
+        OpenclassYard almost = filled(239);
+        due(what + " is the last one", maker.make(almost, new int[] {0, 1, 2, 3}), 239);
+        due(what + " is followed by none", of(() -> almost.number(0)), ISE);
+    }
+
+    private static void wrongPart(String what, int i, Maker maker) {
+        for (int bad : new int[] {-2, 11, 99, Integer.MAX_VALUE, Integer.MIN_VALUE, 10}) {
+            OpenclassYard y = filled(10);
+            y.block(0, 0, 0, 9);
+            int[] parts = {0, 1, 2, 3};
+            parts[i] = bad;
+            due(what + " part " + i + " is " + bad, of(() -> maker.make(y, parts)), IOOBE);
+        }
+    }
+
+    private static void missingPart(String what, String wants, int i, Maker maker) {
+        OpenclassYard y = filled(10);
+        int[] parts = {0, 1, 2, 3};
+        parts[i] = -1;
+        boolean isRefused = wants.charAt(i) == 'n' || wants.charAt(i) == 'f';
+        due(what + " part " + i + " is missing", of(() -> maker.make(y, parts)), isRefused ? (Object) IOOBE : 10);
+        if (wants.charAt(i) == 'f') {
+            parts[i + 1] = -1;
+            due(what + " both arguments are missing", maker.make(y, parts), 10);
+        }
     }
 
     private static OpenclassYard filled(int nodes) {
@@ -238,6 +259,9 @@ public final class NodesTest extends Check {
         NodesTest w = new NodesTest();
         int last = w.y.leave('r', -1);
         due("23: last", w.run(w.y.attempt(w.n(1), -1, 0, w.n(2), -1, last), w.p(w.n(3))), "d");
+        NodesTest e = new NodesTest();
+        int behind = e.y.leave('r', -1);
+        due("23: last, behind what is raised", e.run(e.y.attempt(e.c(6), 3, 0, e.n(2), -1, behind), e.p(e.n(3))), "d");
         NodesTest x = new NodesTest();
         int receiver = x.n(3);
         due("12: receiver", x.run(x.p(x.call(receiver, 10, x.n(4)))), "d n7");
