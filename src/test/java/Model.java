@@ -9,8 +9,8 @@ import java.util.Set;
 import java.util.TreeSet;
 
 /**
- * The language once more, read off the document on its own: it calls itself, leaves by exceptions, and looks everything up
- * anew, so that it shares nothing with the class but the document.
+ * The language once more, written from the document: it calls itself, leaves by exceptions, and looks everything up anew.
+ * It shares no code with the class, but its readings of the document (NOTES.md): it finds slips, not misreadings.
  */
 final class Model {
     private static final int DEEPEST = 40;

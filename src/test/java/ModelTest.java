@@ -1,7 +1,7 @@
 import java.util.Set;
 import java.util.TreeSet;
 
-/** Random programs, with all that can be asked behind them, beside a model that was read off the document on its own. */
+/** Random programs, with all that can be asked behind them, beside a model that shares no code with the class. */
 public final class ModelTest extends Check {
     private static final Set<String> REACHED = new TreeSet<>();
     private static final Set<String> TO_REACH = Set.of("0 of what is made", "1 of what is hidden", "1 of what is not found", "1 of what may not be called", "a block",
